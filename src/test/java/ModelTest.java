@@ -44,8 +44,7 @@ public final class ModelTest {
             addOne(run, x, m, length);
         }
         while (calls < CALLS) {
-            int changes = any(8) == 0 ? 1 : 0;
-            change(run, x, m, length, changes);
+            change(run, x, m, length, any(8) == 0);
             calls++;
             for (int i = any(12); i > 0 && calls < CALLS; i--, calls++) {
                 ask(run, x, m);
@@ -62,8 +61,8 @@ public final class ModelTest {
         Due.is("run " + run + " add(" + op + ", " + k + ")", x.add(op, k), m.add(op, k));
     }
 
-    private static void change(int run, ProcessTurns x, Model m, int length, int rare) {
-        int which = rare == 1 ? 2 + any(3) : any(2);
+    private static void change(int run, ProcessTurns x, Model m, int length, boolean rare) {
+        int which = rare ? 2 + any(3) : any(2);
         if (which == 0) {
             int priority = near(2);
             int place = near(Math.min(length, 40));
