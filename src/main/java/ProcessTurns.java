@@ -553,14 +553,15 @@ public final class ProcessTurns {
             }
             Proc first = members[0];
             size--;
-            for (int i = 0; i < size; i++) {
+            for (int i = 0; i < size && i + 1 < PROCESSES; i++) {
                 members[i] = members[i + 1];
             }
             return first;
         }
 
         int numberAt(int i) {
-            return i >= 0 && i < size && members[i] != null ? members[i].number : NONE;
+            boolean inside = i >= 0 && i < size && i < PROCESSES;
+            return inside && members[i] != null ? members[i].number : NONE;
         }
     }
 

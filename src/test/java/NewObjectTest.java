@@ -1,34 +1,101 @@
-/** Promise 1. */
+/** Promise 1, and for how many calls an object is used. */
 public final class NewObjectTest {
     public static void main(String[] args) {
-        ProcessTurns x = new ProcessTurns();
-        Due.is("clock", x.clock(), 0);
-        Due.is("running", x.running(), -1);
-        Due.is("messages", x.messages(), 0);
-        Due.is("message", x.message(0, 0), Due.NOTHING);
-        for (int p = 0; p < 8; p++) {
-            Due.is("state " + p, x.state(p), 0);
-            Due.is("look " + p, x.look(p, 0), Due.NOTHING);
-        }
-        for (int k = 0; k < 4; k++) {
-            Due.is("channel " + k, x.channel(k), 0);
-        }
-        Due.row("new", x, 0);
-        Due.row("new", x, 1);
-        Due.is("the program is empty", x.add(1, 1), 0);
-        objectsShareNothing();
+        sentences();
         Due.end();
     }
 
-    private static void objectsShareNothing() {
-        ProcessTurns x = Due.with(1, 5, 10, 0);
+    static void sentences() {
+        Due.holds("Promise 1", "All processes free,", NewObjectTest::allProcessesFree);
+        Due.holds("Promise 1", "the program empty,", NewObjectTest::programEmpty);
+        Due.holds("Promise 1", "all channels empty,", NewObjectTest::allChannelsEmpty);
+        Due.holds("Promise 1", "the clock 0,", NewObjectTest::clockZero);
+        Due.holds("Promise 1", "no messages.", NewObjectTest::noMessages);
+        Due.holds("What it is", "An object is used for at most 512 calls after it has been made;",
+            NewObjectTest::goodForAllItsCalls);
+    }
+
+    /** A new object, and a new one beside another in which all is in use. */
+    private static ProcessTurns[] newOnes() {
+        ProcessTurns first = new ProcessTurns();
+        ProcessTurns used = Due.with(10, 0, 11, 0, 10, 1, 8, 3);
+        used.setClock(77);
+        for (int p = 0; p < 8; p++) {
+            used.start(p & 1, p % 4, 5);
+        }
+        used.run(6);
+        Due.is("the used one has a message", used.messages(), 1);
+        Due.is("the used one has one that waits", used.channel(1), 10);
+        ProcessTurns beside = new ProcessTurns();
+        Due.is("the used one is still in use", used.channel(1), 10);
+        return new ProcessTurns[] {first, beside};
+    }
+
+    private static void allProcessesFree() {
+        for (ProcessTurns x : newOnes()) {
+            Due.states("new", x, 0, 0, 0, 0, 0, 0, 0, 0);
+            Due.is("running", x.running(), -1);
+            Due.row("new", x, 0);
+            Due.row("new", x, 1);
+            for (int p = 0; p < 8; p++) {
+                Due.is("look(" + p + ", 0)", x.look(p, 0), Due.NOTHING);
+            }
+            for (int p = 0; p < 8; p++) {
+                Due.is("start", x.start(1, 0, 0), p);
+            }
+        }
+    }
+
+    private static void programEmpty() {
+        for (ProcessTurns x : newOnes()) {
+            x.start(0, 0, 0);
+            x.run(1);
+            Due.is("behind the last is instruction 0", x.state(0), 5);
+            Due.is("add", x.add(1, 1), 0);
+        }
+    }
+
+    private static void allChannelsEmpty() {
+        for (ProcessTurns x : newOnes()) {
+            Due.channels("new", x, 0, 0, 0, 0);
+        }
+    }
+
+    private static void clockZero() {
+        for (ProcessTurns x : newOnes()) {
+            Due.is("clock", x.clock(), 0);
+        }
+    }
+
+    private static void noMessages() {
+        for (ProcessTurns x : newOnes()) {
+            Due.is("messages", x.messages(), 0);
+            for (int n = 0; n < 16; n++) {
+                Due.message("new", x, n, Due.NOTHING, Due.NOTHING, Due.NOTHING, Due.NOTHING, Due.NOTHING);
+            }
+        }
+    }
+
+    /** Two that send and receive without end; there is a message at the clock 1, 5, 9 and on. */
+    private static ProcessTurns afterCalls(int calls) {
+        ProcessTurns x = Due.with(11, 0, 8, 0, 10, 0, 8, 2);
         x.start(0, 0, 0);
-        x.run(2);
-        ProcessTurns y = new ProcessTurns();
-        Due.is("other's state", y.state(0), 0);
-        Due.is("other's channel", y.channel(0), 0);
-        Due.is("other's clock", y.clock(), 0);
-        Due.is("other's program", y.add(0, 0), 0);
-        Due.is("own channel", x.channel(0), 8);
+        x.start(0, 2, 9);
+        for (int i = 6; i < calls; i++) {
+            Due.is("run(400) as call " + (i + 1), x.run(400), 0);
+        }
+        return x;
+    }
+
+    private static void goodForAllItsCalls() {
+        int steps = (511 - 6) * 400;
+        Due.is("clock() as call 512", afterCalls(511).clock(), steps);
+        Due.is("messages() as call 512", afterCalls(511).messages(), steps / 4);
+        Due.is("message(0, 4) as call 512", afterCalls(511).message(0, 4), steps - 3);
+        Due.is("message(15, 4) as call 512", afterCalls(511).message(15, 4), steps - 3 - 15 * 4);
+        Due.is("message(16, 4) as call 512", afterCalls(511).message(16, 4), Due.NOTHING);
+        Due.is("run(400) as call 512", afterCalls(511).run(400), 0);
+        Due.is("start as call 512", afterCalls(511).start(1, 0, 0), 2);
+        Due.is("add as call 512", afterCalls(511).add(0, 0), 4);
     }
 }
