@@ -1,28 +1,22 @@
 import java.io.IOException;
-import java.lang.reflect.Constructor;
 import java.lang.reflect.Field;
 import java.lang.reflect.Method;
 import java.lang.reflect.Modifier;
 import java.nio.file.Files;
 import java.nio.file.Path;
-import java.util.Arrays;
 import java.util.Set;
 import java.util.TreeSet;
 import java.util.regex.Matcher;
 import java.util.regex.Pattern;
 
-/** The rules of LANGUAGE.md that a program can see; it is run from the project's root. */
+/** The rules of LANGUAGE.md that a program can see; the face is FaceTest's. It is run from the project's root. */
 public final class LanguageTest {
-    private static final String[] FACE = {
-        "int add(int, int)", "int start(int, int, int)", "int run(int)", "void setClock(int)", "void reset()",
-        "int clock()", "int running()", "int state(int)", "long look(int, int)", "int waiting(int, int)",
-        "int channel(int)", "int messages()", "long message(int, int)"};
     private static final String[] FORBIDDEN = {
         "\\bimport\\b", "\\bpackage\\b", "\\bthrows?\\b", "\\btry\\b", "\\bcatch\\b", "\\bsynchronized\\b",
         "\\bassert\\b", "->", "::", "\\bprotected\\b", "\\bSystem\\b", "\\bThread\\b", "Exact\\b", "\\bvar\\b"};
 
     public static void main(String[] args) throws IOException {
-        face();
+        privateNames();
         members(ProcessTurns.class);
         for (Class<?> inside : ProcessTurns.class.getDeclaredClasses()) {
             Due.is(inside + " is static", Modifier.isStatic(inside.getModifiers()) ? 1 : 0, 1);
@@ -34,30 +28,17 @@ public final class LanguageTest {
         Due.end();
     }
 
-    private static void face() {
-        Due.is("the class is public and final", ProcessTurns.class.getModifiers(), Modifier.PUBLIC | Modifier.FINAL);
-        Set<String> seen = new TreeSet<>();
+    private static void privateNames() {
         Set<String> open = new TreeSet<>();
         for (Method m : ProcessTurns.class.getDeclaredMethods()) {
-            if (!Modifier.isPrivate(m.getModifiers())) {
-                Due.is(m + " is just public", m.getModifiers(), Modifier.PUBLIC);
-                seen.add(m.getReturnType() + " " + m.getName()
-                    + Arrays.toString(m.getParameterTypes()).replace('[', '(').replace(']', ')'));
+            if (Modifier.isPublic(m.getModifiers())) {
                 open.add(m.getName());
             }
         }
-        Due.is("the face is " + seen, seen.equals(new TreeSet<>(Arrays.asList(FACE))) ? 1 : 0, 1);
         for (Method m : ProcessTurns.class.getDeclaredMethods()) {
             if (Modifier.isPrivate(m.getModifiers())) {
                 Due.is(m + " bears a public name", open.contains(m.getName()) ? 1 : 0, 0);
             }
-        }
-        Constructor<?>[] made = ProcessTurns.class.getDeclaredConstructors();
-        Due.is("constructors", made.length, 1);
-        Due.is("the constructor takes nothing", made[0].getParameterCount(), 0);
-        Due.is("the constructor is public", made[0].getModifiers(), Modifier.PUBLIC);
-        for (Field f : ProcessTurns.class.getDeclaredFields()) {
-            Due.is(f + " is private", Modifier.isPrivate(f.getModifiers()) ? 1 : 0, 1);
         }
     }
 

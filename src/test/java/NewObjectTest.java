@@ -1,4 +1,4 @@
-/** Promise 1, and for how many calls an object is used. */
+/** Promise 1. */
 public final class NewObjectTest {
     public static void main(String[] args) {
         sentences();
@@ -11,8 +11,6 @@ public final class NewObjectTest {
         Due.holds("Promise 1", "all channels empty,", NewObjectTest::allChannelsEmpty);
         Due.holds("Promise 1", "the clock 0,", NewObjectTest::clockZero);
         Due.holds("Promise 1", "no messages.", NewObjectTest::noMessages);
-        Due.holds("What it is", "An object is used for at most 512 calls after it has been made;",
-            NewObjectTest::goodForAllItsCalls);
     }
 
     /** A new object, and a new one beside another in which all is in use. */
@@ -74,28 +72,5 @@ public final class NewObjectTest {
                 Due.message("new", x, n, Due.NOTHING, Due.NOTHING, Due.NOTHING, Due.NOTHING, Due.NOTHING);
             }
         }
-    }
-
-    /** Two that send and receive without end; there is a message at the clock 1, 5, 9 and on. */
-    private static ProcessTurns afterCalls(int calls) {
-        ProcessTurns x = Due.with(11, 0, 8, 0, 10, 0, 8, 2);
-        x.start(0, 0, 0);
-        x.start(0, 2, 9);
-        for (int i = 6; i < calls; i++) {
-            Due.is("run(400) as call " + (i + 1), x.run(400), 0);
-        }
-        return x;
-    }
-
-    private static void goodForAllItsCalls() {
-        int steps = (511 - 6) * 400;
-        Due.is("clock() as call 512", afterCalls(511).clock(), steps);
-        Due.is("messages() as call 512", afterCalls(511).messages(), steps / 4);
-        Due.is("message(0, 4) as call 512", afterCalls(511).message(0, 4), steps - 3);
-        Due.is("message(15, 4) as call 512", afterCalls(511).message(15, 4), steps - 3 - 15 * 4);
-        Due.is("message(16, 4) as call 512", afterCalls(511).message(16, 4), Due.NOTHING);
-        Due.is("run(400) as call 512", afterCalls(511).run(400), 0);
-        Due.is("start as call 512", afterCalls(511).start(1, 0, 0), 2);
-        Due.is("add as call 512", afterCalls(511).add(0, 0), 4);
     }
 }
